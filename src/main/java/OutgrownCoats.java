@@ -1118,37 +1118,36 @@ public final class OutgrownCoats {
                 at++;
                 isTurned = !isTurned;
             }
-            boolean went;
             if (kinds[at] == '(') {
-                went = depth < MAX_BRACKETS ? readInner(depth) : fail();
+                if (!readInner(depth)) {
+                    return false;
+                }
             } else {
-                went = readComparison(depth);
+                if (!readSum(depth)) {
+                    return false;
+                }
+                int sign = kinds[at];
+                if (sign != '<' && sign != '>' && sign != '=') {
+                    return fail();
+                }
+                at++;
+                if (!readSum(depth)) {
+                    return false;
+                }
+                emit(sign == '<' ? OP_LESS : sign == '>' ? OP_MORE : OP_SAME, 0);
             }
-            if (went && isTurned) {
+            if (isTurned) {
                 emit(OP_NOT, 0);
             }
-            return went;
+            return true;
         }
 
         private boolean readInner(int depth) {
-            at++;
-            return readTest(depth + 1) && goOnBehind(')');
-        }
-
-        private boolean readComparison(int depth) {
-            if (!readSum(depth)) {
-                return false;
-            }
-            int sign = kinds[at];
-            if (sign != '<' && sign != '>' && sign != '=') {
+            if (depth >= MAX_BRACKETS) {
                 return fail();
             }
             at++;
-            if (!readSum(depth)) {
-                return false;
-            }
-            emit(sign == '<' ? OP_LESS : sign == '>' ? OP_MORE : OP_SAME, 0);
-            return true;
+            return readTest(depth + 1) && goOnBehind(')');
         }
 
         private boolean readSum(int depth) {
@@ -1242,19 +1241,7 @@ public final class OutgrownCoats {
         }
 
         private boolean isWord(String word) {
-            return kinds[at] == LETTERS && isAt(word, 0, word.length());
-        }
-
-        private boolean isAt(String list, int from, int to) {
-            if (stops[at] - starts[at] != to - from) {
-                return false;
-            }
-            for (int i = from; i < to; i++) {
-                if (list.charAt(i) != text[starts[at] + i - from]) {
-                    return false;
-                }
-            }
-            return true;
+            return listed(word) == 0;
         }
 
         /** Which word of a list stands here, NONE if none of them. */
@@ -1262,15 +1249,19 @@ public final class OutgrownCoats {
             if (kinds[at] != LETTERS) {
                 return NONE;
             }
+            int letters = stops[at] - starts[at];
             int number = 0;
-            int from = 0;
+            int alike = 0;
             for (int i = 0; i <= list.length(); i++) {
                 if (i == list.length() || list.charAt(i) == ' ') {
-                    if (isAt(list, from, i)) {
+                    if (alike == letters) {
                         return number;
                     }
                     number++;
-                    from = i + 1;
+                    alike = 0;
+                } else if (alike != NONE) {
+                    boolean goesOn = alike < letters && text[starts[at] + alike] == list.charAt(i);
+                    alike = goesOn ? alike + 1 : NONE;
                 }
             }
             return NONE;
@@ -1755,12 +1746,11 @@ public final class OutgrownCoats {
 
         /** The i-th feast that may have been, how many for NONE. */
         int hiddenFeast(int i) {
-            int unseen = findFeasts();
+            findFeasts();
             int found = 0;
             for (int q = 1; q <= MAX_FEAST_QUARTERS; q++) {
                 for (int person = 0; person < state.town.peopleCount; person++) {
-                    boolean othersSeen = unseen == 0 || unseen == 1 && !seenWithout[person];
-                    if (othersSeen && (feasts[person] >> (q - 1) & 1) == 1) {
+                    if ((feasts[person] >> (q - 1) & 1) == 1) {
                         if (found == i) {
                             return (q - 1) * 8 + person;
                         }
@@ -1771,23 +1761,31 @@ public final class OutgrownCoats {
             return i == NONE ? found : NONE;
         }
 
-        /** Of how many PEOPLE not all SIGHTS are so without a feast. */
-        private int findFeasts() {
+        // One feast can't mend what is not so of two PEOPLE, nor one's with another's feast.
+        private void findFeasts() {
             int unseen = 0;
             for (int person = 0; person < state.town.peopleCount; person++) {
                 int last = lastSight(person);
                 walk(person, last);
                 seenWithout[person] = isSeenWalking(person, last);
-                if (!seenWithout[person]) {
-                    unseen++;
-                }
-                feasts[person] = 0;
-                for (int q = 1; q <= MAX_FEAST_QUARTERS; q++) {
-                    boolean fits = q > last ? seenWithout[person] : isSeenWithFeast(person, q, last);
-                    feasts[person] |= fits ? 1 << (q - 1) : 0;
-                }
+                unseen += seenWithout[person] ? 0 : 1;
             }
-            return unseen;
+            for (int person = 0; person < state.town.peopleCount; person++) {
+                boolean areOthersSeen = unseen == 0 || unseen == 1 && !seenWithout[person];
+                feasts[person] = areOthersSeen ? feastsOf(person) : 0;
+            }
+        }
+
+        /** The QUARTERS, as bits, in which a feast lets all SIGHTS of this PERSON be so. */
+        private int feastsOf(int person) {
+            int last = lastSight(person);
+            walk(person, last);
+            int bits = 0;
+            for (int q = 1; q <= MAX_FEAST_QUARTERS; q++) {
+                boolean isSeen = q > last ? seenWithout[person] : isSeenWithFeast(person, q, last);
+                bits |= isSeen ? 1 << (q - 1) : 0;
+            }
+            return bits;
         }
 
         private int lastSight(int person) {
