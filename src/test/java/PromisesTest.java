@@ -262,6 +262,22 @@ public final class PromisesTest {
         due("status", x.status(), 0);
     }
 
+    private static void p10RowCutOff() {
+        fresh(10);
+        tape("\u0001\u0020\u0010\u0001\u0020\u0010");
+        x.end(5);
+        due("what was cut off is not there", x.row(), 1);
+        due("MOTHS", x.moths(), 1);
+        tape("grows 12");
+        x.end(7);
+        due("law", x.law(), 0);
+        x.force(0);
+        due("what was cut off is not there", x.of(0, 4), 1);
+        tape("grows 1 if");
+        x.end(8);
+        due("law", x.law(), 1);
+    }
+
     private static void p11Moths() {
         fresh(11);
         due("ahead of any", x.moths(), 0);
@@ -382,9 +398,26 @@ public final class PromisesTest {
         lawFault("grows 1 if (((((((([1]=1", 19);
         lawFault("grows \u00e9", 6);
         lawFault("grows 1 +  ", 11);
+        lawFault("grows 2 *", 9);
+        lawFault("grows 2 */ 3", 9);
+        lawFault("growsz 1", 0);
+        lawFault("zgrows 1", 0);
+        lawFault("grows 1 if fed = 1 or", 21);
+        lawFault("grows 1 if fed = 1 and", 22);
+        lawFault("grows 1 if fed =", 16);
+        lawFault("grows `", 6);
+        lawFault("grows {", 6);
+        lawFault("grows /", 6);
+        lawFault("grows :", 6);
+        lawFault(many(")", 400), 0);
+        lawFault(many(" ", 399) + "x", 399);
+        lawFault("grows 1 if " + many("not ", 97) + "x", 399);
+        lawFault(many("bars;", 12) + many(";", 340), 60);
         due("leading zeros", law("grows 0000000000000000000000007"), 0);
         due("no FAULT", x.fault(), NONE);
         ordersFault("hem 0 if age = 1", 9);
+        due("400 bytes", law(many(" ", 396) + "bars"), 1);
+        due("400 bytes", law("grows 1 if " + many("not ", 96) + "1=1  "), 2);
         ordersFault("hem 0 times", 11);
         ordersFault("hem 0 times 21", 12);
         ordersFault("hem 0 times 1+1", 13);
@@ -398,7 +431,7 @@ public final class PromisesTest {
         due("P, TIMES are no PARTS", orders("hem wide 0" + many("+wide 0", 49) + " times 1"), -3);
         due("no FAULT", x.fault(), NONE);
         lawFault("x", 0);
-        for (int i = 0; i < 5; i++) {
+        for (int i = 0; i < 3; i++) {
             law("bars");
         }
         lawIsRefusedForRoom();
@@ -495,6 +528,10 @@ public final class PromisesTest {
         due("and ahead of or", x.asks(0, 0, 40, 20, 2), 0);
         due("from the left", x.asks(0, 0, 40, 20, 1), 6);
         due("* ahead of +", x.asks(0, 0, 40, 20, 0), 11);
+        rule("pays 1000 if not not not 1 = 2;bars if not 1 = 1;cloth 0-1 if not (1 = 2 or not 1 = 1)");
+        due("at most", x.asks(0, 0, 40, 20, 1), 999);
+        due("not", x.asks(0, 0, 40, 20, 2), 0);
+        due("at least", x.asks(0, 0, 40, 20, 0), 0);
     }
 
     private static void p18Sew() {
@@ -729,6 +766,7 @@ public final class PromisesTest {
         due("on paper", x.of(0, 0), 60);
         x.terms(0, 999);
         rule("grows 4 if quarter = 0;grows 0 if quarter > 0;widens 0");
+        due("NOW as it was", x.will(0, 1, 1), 40);
         due("NOW goes on behind 999", x.will(0, 2, 1), 44);
         due("NOW goes on behind 999", x.will(0, 6, 1), 48);
     }
@@ -802,6 +840,13 @@ public final class PromisesTest {
         due("LONG as without", x.odds(1, 26, 3), 0);
         due("in three", x.odds(1, 25, 3), 125000000000L);
         due("in three", x.odds(1, 24, 3), 500000000000L);
+        rule("widens quarter");
+        x.terms(0, 1);
+        due("quarter by quarter", x.odds(1, 26, 3), 1000000000000L);
+        due("quarter by quarter", x.odds(1, 27, 3), 875000000000L);
+        x.terms(0, 999);
+        due("NOW goes on behind 999", x.odds(1, 24, 3), 1000000000000L);
+        due("NOW goes on behind 999", x.odds(1, 25, 3), 875000000000L);
     }
 
     private static void p28Cutting() {
@@ -832,6 +877,39 @@ public final class PromisesTest {
             due("wrong", x.cutting(b[0], b[1], b[2]), NONE);
         }
         due("40", x.cutting(0, 40, 0), 40);
+    }
+
+    private static void p28CuttingForEight() {
+        fresh(28);
+        for (int i = 0; i < 8; i++) {
+            x.person(0, 40, 20);
+        }
+        x.bale(0, 999);
+        rule("cloth 124+person;pays 10+person");
+        due("all but the first", x.cutting(0, 1, 0), 98);
+        due("CLOTH", x.cutting(0, 1, 1), 896);
+        for (int i = 0; i < 8; i++) {
+            due("PERSON " + i, x.cutting(0, 1, 2 + i), i == 0 ? 100 : 0);
+        }
+        due("no such", x.cutting(0, 1, 10), NONE);
+        rule("cloth 999;pays 10+person");
+        due("the last alone", x.cutting(0, 1, 0), 17);
+        due("CLOTH", x.cutting(0, 1, 1), 999);
+        due("the last alone", x.cutting(0, 1, 9), 0);
+        due("the last alone", x.cutting(0, 1, 2), 100);
+        rule("cloth 500-person;pays 10+person%2");
+        due("two", x.cutting(0, 1, 0), 22);
+        due("the first two that PAY most and can be", x.cutting(0, 1, 3), 0);
+        due("CLOTH", x.cutting(0, 1, 1), 499 + 497);
+        fresh(28);
+        x.person(0, 40, 20);
+        x.bale(0, 20);
+        x.image(0);
+        x.person(0, 40, 20);
+        due("one", x.cutting(0, 1, 0), 20);
+        x.back(0);
+        due("one", x.cutting(0, 1, 0), 20);
+        due("what stood there is gone", x.cutting(0, 1, 2), 0);
     }
 
     private static void p28CuttingByLaw() {
@@ -876,9 +954,15 @@ public final class PromisesTest {
         for (int i = 0; i <= 3; i++) {
             due("1 ahead of 0", x.dress(0, 3, i), 1);
         }
+        for (int i = 0; i <= 24; i++) {
+            due("1 ahead of 0", x.dress(0, 24, i), 1);
+        }
         rule("cloth 10 if quarter = 0;cloth 1 if quarter = 2;cloth 5 if quarter = 3;cloth 9 if quarter = 1;bars");
         due("asked when it is cut", x.dress(0, 3, NONE), 10);
         due("not at 2", x.dress(0, 3, 2), 0);
+        x.terms(0, 2);
+        due("at 2", x.dress(0, 3, NONE), 1);
+        x.terms(0, 0);
         rule("cloth [long-39]*[long-39]+tailor+1");
         due("each as LONG as need be", x.dress(0, 2, NONE), 9);
         rule("cloth [long-39]*[long-39]*[1+quarter%2*0]-age*9");
@@ -912,11 +996,22 @@ public final class PromisesTest {
         rule("grows 1;grows 0 if fed = 1 and age = 64;widens 0");
         due("by LONG", x.game(0, 3, 0), 2);
         due("FED 1", x.game(0, 3, 1), 2);
+        rule("grows 0;widens 1 if age = 71;widens 0 if age < 71");
+        due("in the eighth", x.game(0, 8, 0), 8);
+        due("not in seven", x.game(0, 7, 0), 8);
+        rule("widens 0-1;widens 1 if quarter = 2 and fed = 1");
+        due("she in the third", x.game(0, 3, 0), 4);
+        x.terms(0, 1);
+        due("the tailor in the second", x.game(0, 3, 0), 4);
+        due("the lowest", x.game(0, 3, 1), 0);
+        x.terms(0, 2);
+        due("she now", x.game(0, 3, 1), 0);
         due("n 0", x.game(0, 0, 0), NONE);
         due("n 9", x.game(0, 9, 0), NONE);
         due("what 2", x.game(0, 1, 2), NONE);
         due("what -1", x.game(0, 1, -1), NONE);
         due("no such", x.game(2, 1, 0), NONE);
+        x.force(0);
         x.quarter();
         due("no WEARER", x.game(0, 1, 0), NONE);
     }
@@ -937,6 +1032,11 @@ public final class PromisesTest {
         due("too wide", x.fed(0, 1, 999), 0);
         rule("widens fed*fed");
         due("two each", x.fed(0, 1, 24), 2 + 32);
+        rule("widens fed*quarter");
+        due("1 and 2", x.fed(0, 3, 23), 16);
+        x.terms(0, 3);
+        due("3, 0 and 1", x.fed(0, 3, 24), 16);
+        due("3 and 0", x.fed(0, 2, 23), 16);
         due("FED stays", x.of(0, 3), 2);
     }
 
@@ -997,6 +1097,32 @@ public final class PromisesTest {
         x.sight(2, 0, 22);
         due("what comes of it", x.hidden(NONE), 1);
         due("in the first", x.hidden(0), 0);
+    }
+
+    private static void p34HiddenByQuarters() {
+        fresh(34);
+        x.person(0, 40, 20);
+        x.person(0, 40, 20);
+        rule("grows 0;widens 1 if quarter = 2 and wide > 20;widens 0 if quarter < 2 or quarter = 3");
+        x.sight(1, 1, 20);
+        x.sight(3, 0, 22);
+        due("ahead of the third", x.hidden(NONE), 2);
+        due("in the first", x.hidden(0), 0);
+        due("in the second", x.hidden(1), 8);
+        x.sight(1, 0, 20);
+        due("not in the first", x.hidden(NONE), 1);
+        due("in the second", x.hidden(0), 8);
+        x.sight(1, 1, 21);
+        due("never", x.hidden(NONE), 0);
+        x.forget();
+        x.sight(1, 0, 21);
+        due("in the first", x.hidden(NONE), 1);
+        x.sight(2, 0, 20);
+        due("not then", x.hidden(NONE), 0);
+        x.forget();
+        x.sight(1, 0, 21);
+        x.sight(5, 0, 21);
+        due("behind the third it is 22", x.hidden(NONE), 0);
     }
 
     private static void p35Years() {
@@ -1153,6 +1279,26 @@ public final class PromisesTest {
         due("GROWS", x.of(0, 4), 3);
     }
 
+    private static void p38BackToLaws() {
+        fresh(38);
+        x.person(0, 40, 20);
+        x.image(0);
+        for (int i = 0; i < 6; i++) {
+            law("grows " + (i + 2));
+        }
+        x.image(1);
+        x.back(0);
+        due("LAWS", x.count(3), 0);
+        for (int i = 0; i < 6; i++) {
+            law("grows 9");
+        }
+        x.back(1);
+        for (int i = 0; i < 6; i++) {
+            due("force", x.force(i), i - 1);
+            due("GROWS", x.of(0, 4), i + 2);
+        }
+    }
+
     private static void p39Count() {
         fresh(39);
         x.person(0, 40, 20);
@@ -1279,6 +1425,7 @@ public final class PromisesTest {
         p8Feed();
         p9End();
         p10Row();
+        p10RowCutOff();
         p11Moths();
         p12Law();
         p13Orders();
@@ -1302,16 +1449,19 @@ public final class PromisesTest {
         p27Odds();
         p28Cutting();
         p28CuttingByLaw();
+        p28CuttingForEight();
         p29Dress();
         p30Game();
         p31Fed();
         p32Sight();
         p33Forget();
         p34Hidden();
+        p34HiddenByQuarters();
         p35Years();
         p36Drawn();
         p37Image();
         p38Back();
+        p38BackToLaws();
         p39Count();
         p40Status();
         System.out.println(wrong == 0 ? "all promises hold" : wrong + " answers are not as due");
