@@ -285,6 +285,16 @@ public final class BoundsOfPlansTest extends Sentences {
         due("LONG stays 40", x.odds(0, 24, 3), 0);
     }
 
+    static void p27askedAsWideAsOneIsThen() {
+        x.person(64, 40, 20);
+        x.terms(1, 5);
+        rule("widens 0;widens 3 if wide=21");
+        due("20, 21, 24, 25", x.odds(0, 21, 2), ALL / 4 * 3);
+        due("24, 25", x.odds(0, 24, 2), ALL / 2);
+        due("25", x.odds(0, 25, 2), ALL / 4);
+        due("26", x.odds(0, 26, 2), 0);
+    }
+
     static void p27nowGoesOnBehind999() {
         x.person(64, 40, 20);
         x.terms(0, 999);
@@ -404,6 +414,29 @@ public final class BoundsOfPlansTest extends Sentences {
         due("CLOTH", x.cutting(0, 1, 1), 16);
         due("it is the first's", x.cutting(0, 1, 2), 0);
         due("there is no second", x.cutting(0, 1, 3), NONE);
+    }
+
+    static void p28eachTakesItsOwnCloth() {
+        x.person(0, 40, 20);
+        x.person(0, 50, 20);
+        x.person(0, 60, 20);
+        rule("cloth 10+person*5+wide-20;pays 10+person+wide-20;widens 1");
+        x.bale(2, 10 + 15 + 20 + 9);
+        due("all, the widest", x.cutting(2, 9, 0), 33 + 9);
+        due("CLOTH", x.cutting(2, 9, 1), 54);
+        due("3 for the last", x.cutting(2, 9, 4), 3);
+        x.bale(2, 10 + 15 + 20 + 8);
+        due("one less", x.cutting(2, 9, 0), 33 + 8);
+        due("2 for the first", x.cutting(2, 9, 2), 2);
+        due("3 for the second", x.cutting(2, 9, 3), 3);
+        x.bale(2, 10 + 15 + 20);
+        due("none is wider", x.cutting(2, 9, 0), 33);
+        due("0 for the first", x.cutting(2, 9, 2), 0);
+        due("0 for the last", x.cutting(2, 9, 4), 0);
+        x.bale(2, 10 + 15 + 20 - 1);
+        due("not all: the second and the third, each 3 wider", x.cutting(2, 9, 0), 11 + 12 + 6);
+        due("the first has none", x.cutting(2, 9, 2), 100);
+        due("CLOTH", x.cutting(2, 9, 1), 15 + 20 + 6);
     }
 
     static void p28dueInSoManyQuarters() {

@@ -507,6 +507,26 @@ public final class BoundsOfRecordsTest extends Sentences {
         due("no room for a PERSON", x.person(0, 40, 20), -5);
     }
 
+    static void p38lawsAreAsTheyWere() {
+        x.person(64, 40, 20);
+        x.image(0);
+        for (int i = 0; i < 6; i++) {
+            law("grows " + (i + 1));
+        }
+        x.image(1);
+        x.back(0);
+        due("LAWS", x.count(3), 0);
+        due("no LAW 0", x.force(0), -2);
+        for (int i = 0; i < 6; i++) {
+            law("grows 9");
+        }
+        x.back(1);
+        for (int i = 0; i < 6; i++) {
+            x.force(i);
+            due("GROWS by LAW " + i, x.of(0, 4), i + 1);
+        }
+    }
+
     static void p38sightsAreAsTheyWere() {
         x.person(64, 40, 20);
         x.person(64, 40, 30);

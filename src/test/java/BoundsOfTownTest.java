@@ -502,6 +502,16 @@ public final class BoundsOfTownTest extends Sentences {
         due("PEOPLE", x.count(0), 5);
     }
 
+    static void p10theTapeEndsWhereEndTellsIt() {
+        for (int bytes = 3; bytes <= 6; bytes++) {
+            fresh();
+            tape(bytes(1, 40, 20, 2, 41, 21));
+            x.end(bytes);
+            due(bytes + " of six bytes", x.row(), bytes / 3);
+            due("MOTHS", x.moths(), bytes % 3 == 0 ? 0 : 1);
+        }
+    }
+
     static void p10longAndWideThatCannotBe() {
         due("LONG 19, 20", row(1, 19, 20, 2, 20, 20), 1);
         due("LONG 250, 251", row(3, 250, 20, 4, 251, 20), 1);
@@ -865,6 +875,26 @@ public final class BoundsOfTownTest extends Sentences {
         due("would PAY", x.coat(0, 8), NONE);
         due("PAID", x.coat(0, 7), 1);
         due("its TAILORS stay", x.coat(0, 2) * 10 + x.coat(0, 3), 23);
+    }
+
+    static void p19whatEachWouldPayByItself() {
+        x.person(64, 40, 20);
+        x.person(64, 41, 21);
+        x.bale(1, 99);
+        x.bale(3, 99);
+        rule("pays long*5+wide+tailor*100+person");
+        x.sew(1, 3, 0, 41, 22);
+        x.sew(3, 1, 1, 42, 21);
+        due("COAT 0", x.coat(0, 8), 205 + 22 + 100);
+        due("COAT 1", x.coat(1, 8), 210 + 21 + 300 + 1);
+        x.let(0, 1);
+        due("COAT 0 with a BUTTON moved", x.coat(0, 8), 205 + 23 + 100);
+        due("TAILOR 1 would get", x.tailor(1, 2), 164 + 266);
+        due("TAILOR 3 would get", x.tailor(3, 2), 164 + 266);
+        x.nourish(0, 3);
+        x.nourish(1, 1);
+        due("COAT 1 is PAID", x.quarter(), 532);
+        due("COAT 0 is PAID", x.quarter(), 328);
     }
 
     // ---- promise 20: let ----
