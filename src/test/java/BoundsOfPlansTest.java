@@ -200,6 +200,18 @@ public final class BoundsOfPlansTest extends Sentences {
         due("the PURSE is aside", x.tailor(0, 1), 20);
     }
 
+    static void p26coatsThatAreThereAlone() {
+        x.person(0, 40, 20);
+        x.bale(0, 999);
+        for (int i = 0; i < 10; i++) {
+            due("by " + i, x.falls(0, 1), 20 * i);
+            x.sew(0, 0, 0, 40, 20);
+        }
+        due("by ten", x.falls(0, 1), 200);
+        x.undo();
+        due("by nine", x.falls(0, 1), 180);
+    }
+
     // ---- promise 27: odds ----
 
     static void p27from0To12Quarters() {

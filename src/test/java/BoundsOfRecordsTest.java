@@ -89,6 +89,18 @@ public final class BoundsOfRecordsTest extends Sentences {
         due("all may be HIDDEN", x.hidden(NONE), 20);
     }
 
+    static void p33whatIsForgottenIsNotSeen() {
+        x.person(64, 40, 20);
+        for (int i = 1; i <= 6; i++) {
+            x.sight(1, 0, 99);
+        }
+        x.forget();
+        for (int i = 1; i <= 6; i++) {
+            x.sight(1, 0, 21);
+            due("by " + i, x.hidden(NONE), 1);
+        }
+    }
+
     // ---- promise 34: hidden ----
 
     static void p34theNumbers() {

@@ -339,6 +339,18 @@ public final class BoundsOfTownTest extends Sentences {
         due("PURSE", x.tailor(1, 1), 21);
     }
 
+    static void p06coatsThatAreThereAlone() {
+        x.person(0, 40, 20);
+        x.bale(0, 999);
+        for (int i = 0; i < 10; i++) {
+            due("would get by " + i, x.tailor(0, 2), 20 * i);
+            x.sew(0, 0, 0, 40, 20);
+        }
+        due("would get by ten", x.tailor(0, 2), 200);
+        x.undo();
+        due("would get by nine", x.tailor(0, 2), 180);
+    }
+
     static void p06askedOfTailorAndWearerNow() {
         x.person(3, 40, 20);
         x.person(8, 40, 20);
