@@ -6,7 +6,6 @@ import java.nio.file.Files;
 import java.nio.file.Path;
 import java.util.ArrayList;
 import java.util.Arrays;
-import java.util.Collections;
 import java.util.List;
 import java.util.TreeSet;
 import java.util.regex.Matcher;
@@ -14,14 +13,6 @@ import java.util.regex.Pattern;
 
 /** The face of the class, and what of the rules of LANGUAGE.md can be seen from its text and members. */
 public final class LanguageTest {
-    private static final String FACE = "int person(int, int, int);int of(int, int);int nourish(int, int);"
-            + "int bale(int, int);int tailor(int, int);int terms(int, int);int feed(int, int, int, int, int);"
-            + "int end(int);int row();int moths();int law();int orders();int fault();int stopped();int force(int);"
-            + "int asks(int, int, int, int, int);int sew(int, int, int, int, int);int coat(int, int);"
-            + "int let(int, int);int quarter();int hand(int, int);int undo();int will(int, int, int);int due(int);"
-            + "int falls(int, int);long odds(int, int, int);int cutting(int, int, int);int dress(int, int, int);"
-            + "int game(int, int, int);int fed(int, int, int);int sight(int, int, int);int forget();int hidden(int);"
-            + "int years(int, int);int drawn(int, int);int image(int);int back(int);int count(int);int status()";
     private static final String[] FORBIDDEN = {"\\bthrow\\b", "\\bthrows\\b", "\\btry\\b", "\\bcatch\\b",
         "\\bfinally\\b", "\\bsynchronized\\b", "\\bassert\\b", "->", "::", "\\bprotected\\b", "static \\{",
         "Exact\\(", "\\bSystem\\.(?!arraycopy)", "\\bRandom\\b", "\\bThread\\b", "\\bString\\[\\]", "\\bhashCode\\b",
@@ -33,7 +24,27 @@ public final class LanguageTest {
         System.out.println(what);
     }
 
-    private static void checkFace() {
+    /** The methods of the document's face, or its constants, as the document writes them. */
+    private static TreeSet<String> faceOf(String pattern) throws Exception {
+        String doc = Files.readString(Path.of("../shared/DOC.md"));
+        int from = doc.indexOf("public final class OutgrownCoats {");
+        String face = from < 0 ? "" : doc.substring(from, doc.indexOf("```", from));
+        TreeSet<String> all = new TreeSet<>();
+        Matcher m = Pattern.compile(pattern).matcher(face);
+        while (m.find()) all.add(m.group(1).replaceAll("(int|long) \\w+(?=[,)])", "$1"));
+        return all;
+    }
+
+    private static void checkConstants() throws Exception {
+        TreeSet<String> got = new TreeSet<>();
+        for (Field f : OutgrownCoats.class.getDeclaredFields()) {
+            if (Modifier.isPublic(f.getModifiers())) got.add(f.getType() + " " + f.getName() + " = " + f.get(null));
+        }
+        TreeSet<String> want = faceOf("public static final ([^;]+);");
+        if (want.size() != 2 || !got.equals(want)) say("the constants are " + got + " and not " + want);
+    }
+
+    private static void checkFace() throws Exception {
         TreeSet<String> got = new TreeSet<>();
         TreeSet<String> hiddenNames = new TreeSet<>();
         for (Method m : OutgrownCoats.class.getDeclaredMethods()) {
@@ -45,8 +56,8 @@ public final class LanguageTest {
                 say("visible beside the face: " + m);
             }
         }
-        TreeSet<String> want = new TreeSet<>(Arrays.asList(FACE.split(";")));
-        if (!got.equals(want)) say("the face is " + got + " and not " + want);
+        TreeSet<String> want = faceOf("public ((?:int|long) \\w+\\([^)]*\\));");
+        if (want.size() != 39 || !got.equals(want)) say("the face is " + got + " and not " + want);
         List<Class<?>> classes = new ArrayList<>(Arrays.asList(OutgrownCoats.class.getDeclaredClasses()));
         if (classes.size() + 1 > 12) say(classes.size() + 1 + " classes");
         classes.add(OutgrownCoats.class);
@@ -116,6 +127,7 @@ public final class LanguageTest {
 
     public static void main(String[] args) throws Exception {
         checkFace();
+        checkConstants();
         checkText();
         System.out.println(wrong == 0 ? "the rules hold" : wrong + " rules broken");
         if (wrong != 0) System.exit(1);
