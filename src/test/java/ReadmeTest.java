@@ -1,6 +1,8 @@
 import java.lang.reflect.Method;
+import java.lang.reflect.Modifier;
 import java.nio.file.Files;
 import java.nio.file.Path;
+import java.util.TreeSet;
 import java.util.regex.Matcher;
 import java.util.regex.Pattern;
 
@@ -8,6 +10,7 @@ import java.util.regex.Pattern;
 public final class ReadmeTest extends Sentences {
     private static final Pattern CALL = Pattern.compile("town\\.(\\w+)\\(([-\\d, ]*)\\); *// (-?\\d+)(:.*)?");
     private static final Pattern TEXT = Pattern.compile("tape\\(town, \"([^\"]*)\"\\);");
+    private static final TreeSet<String> shown = new TreeSet<>();
     private static int calls = 0;
     private static int wrong = 0;
 
@@ -20,6 +23,7 @@ public final class ReadmeTest extends Sentences {
             if (m.getName().equals(name) && m.getParameterCount() == numbers.length) got = ((Number) m.invoke(x, numbers)).longValue();
         }
         calls++;
+        shown.add(name);
         if (got != want) {
             wrong++;
             System.out.println(name + "(" + arguments + ") answered " + got + ", README.md has " + want);
@@ -41,9 +45,19 @@ public final class ReadmeTest extends Sentences {
         }
     }
 
+    private static void checkShown() {
+        for (Method m : OutgrownCoats.class.getDeclaredMethods()) {
+            if (Modifier.isPublic(m.getModifiers()) && !shown.contains(m.getName())) {
+                wrong++;
+                System.out.println("README.md does not show " + m.getName());
+            }
+        }
+    }
+
     public static void main(String[] args) throws Exception {
         for (String line : Files.readAllLines(Path.of("README.md"))) read(line);
+        checkShown();
         System.out.println(calls + " calls of README.md, " + wrong + " answers are not as due");
-        if (wrong != 0 || calls < 50) System.exit(1);
+        if (wrong != 0) System.exit(1);
     }
 }
